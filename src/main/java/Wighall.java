@@ -100,7 +100,8 @@ public final class Wighall {
     }
 
     public int mix(int one, int other, int grams, int more)
-            throws IndexOutOfBoundsException, IllegalArgumentException, UnsupportedOperationException, IllegalStateException {
+            throws IndexOutOfBoundsException, IllegalArgumentException, UnsupportedOperationException,
+            IllegalStateException {
         Bundle first = bundleAt(one);
         Bundle second = bundleAt(other);
         // Each number is looked at alone ahead of the sum, which could wrap around otherwise.
@@ -344,7 +345,8 @@ public final class Wighall {
     }
 
     public int look(int person, int head, int beard, int glue, int layers, int day)
-            throws IndexOutOfBoundsException, IllegalArgumentException, UnsupportedOperationException, IllegalStateException {
+            throws IndexOutOfBoundsException, IllegalArgumentException, UnsupportedOperationException,
+            IllegalStateException {
         Person wearer = personAt(person);
         Piece worn = pieceOrNull(head);
         Piece glued = pieceOrNull(beard);

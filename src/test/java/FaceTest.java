@@ -47,7 +47,8 @@ public final class FaceTest {
         String body = document.substring(document.indexOf('{', begin) + 1, document.indexOf("\n}", begin));
         for (String line : body.split("\n")) {
             if (!line.isBlank()) {
-                face.add(line.trim().replace(";", "").replace("public ", "").replaceAll("(\\w+) [a-z]\\w*([,)])", "$1$2"));
+                String member = line.trim().replace(";", "").replace("public ", "");
+                face.add(member.replaceAll("(\\w+) [a-z]\\w*([,)])", "$1$2"));
             }
         }
         return face;

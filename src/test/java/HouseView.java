@@ -11,7 +11,8 @@ final class HouseView {
         changes(house, view);
         view.append(" lacks");
         for (int i = 0; i < house.lacks(); i++) {
-            view.append(' ').append(house.lackSort(i)).append(house.lack(i, 's')).append(',').append(house.lack(i, 'p'));
+            view.append(' ').append(house.lackSort(i)).append(house.lack(i, 's'));
+            view.append(',').append(house.lack(i, 'p'));
         }
         view.append(" mistakes ").append(house.mistakes()).append(" money ").append(house.money());
         return view.append(" sum ").append(house.checksum()).append(house.isSound()).toString();

@@ -409,6 +409,7 @@ public final class WighallTest {
         house.knot(0, 5, 5, 2, 1);
         refused(house, "hair of a 4th bundle", UNSUPPORTED, () -> house.knot(0, 5, 5, 3, 1));
         due("one of the three again", house.knot(0, 5, 5, 1, 2), 5);
+        due("another of the three", house.knot(0, 5, 5, 2, 1), 6);
         house.unknot(0, 5, 5);
         due("the 4th one, on a place that was emptied", house.knot(0, 5, 5, 3, 1), 1);
         int scarce = house.bundle('h', 30, 40, 1);
@@ -558,6 +559,9 @@ public final class WighallTest {
         due("without knots", house.isEven(0), false);
         fill(house, 0, 6, 0, 3);
         due("all alike", house.isEven(0), true);
+        house.unknot(0, 5, 5);
+        due("none in the last place", house.isEven(0), false);
+        house.knot(0, 5, 5, 0, 3);
         house.knot(0, 5, 5, 0, 3);
         due("3 more in the last place", house.isEven(0), true);
         house.knot(0, 5, 5, 0, 1);
@@ -570,6 +574,9 @@ public final class WighallTest {
         due("a place without knots", house.isEven(0), false);
         house.knot(0, 0, 0, 0, 1);
         due("a place with one knot", house.isEven(0), true);
+        house.unknot(0, 5, 0);
+        house.knot(0, 5, 0, 0, 1);
+        due("a place with one knot, the last of its row", house.isEven(0), true);
         fill(house, 1, 2, 0, 5);
         due("a beard of two rows", house.isEven(1), true);
         house.knot(1, 0, 1, 0, 4);
@@ -844,6 +851,7 @@ public final class WighallTest {
         due("two", house.changes(), 2);
         house.exit(2, 1);
         due("one", house.changes(), 1);
+        refused(house, "one that is no more", INDEX, () -> house.change(1, 'p'));
     }
 
     private static void change() {
@@ -904,6 +912,7 @@ public final class WighallTest {
         house.exit(0, 0);
         due("the lower person first", changeRow(house), "p1s25t80a1b3d0 p2s25t80a1b3d-1");
         changeBackToBack();
+        changeInLongScenes();
     }
 
     private static void changeBackToBack() {
@@ -928,6 +937,24 @@ public final class WighallTest {
         house.enter(3, 6);
         due("with more time it keeps the dresser", changeRow(house), "p0s85t140a0b3d0 p1s25t80a1b3d-1");
         due("one is late", house.late(), 1);
+    }
+
+    private static void changeInLongScenes() {
+        Wighall house = houseWithLooks();
+        house.look(0, -1, -1, 0, 3, 0);
+        house.scene(60, 0);
+        house.scene(2, 0);
+        house.scene(1, 0);
+        house.dresser(0);
+        house.enter(0, 0);
+        house.enter(2, 5);
+        house.enter(1, 2);
+        house.enter(2, 3);
+        due("75 seconds fit ahead of 120", changeRow(house), "p0s75t140a0b2d0 p1s25t20a1b2d-1");
+        house.scene(1, 0);
+        house.exit(2, 1);
+        house.enter(3, 3);
+        due("free behind two minutes", changeRow(house), "p0s75t140a0b2d0 p1s25t80a1b3d0");
     }
 
     private static void late() {
@@ -1007,6 +1034,8 @@ public final class WighallTest {
         refused(house, "a head on hire", UNSUPPORTED, () -> house.show());
         house.exit(1, 0);
         due("nobody has it in a scene", house.show(), 0);
+        house.enter(0, 0);
+        refused(house, "in the first scene", UNSUPPORTED, () -> house.show());
     }
 
     private static void showHeads() {
@@ -1063,6 +1092,12 @@ public final class WighallTest {
         house.unknot(0, 4, 3);
         house.show();
         due("no knots", house.of(0, 's'), 74);
+        house.knot(0, 3, 3, 0, 1);
+        house.show();
+        due("made hair that was taken out", house.of(0, 's'), 63);
+        house.knot(0, 0, 0, 2, 1);
+        house.show();
+        due("made hair in the first place", house.of(0, 's'), 58);
         Wighall sweating = houseWithPieces();
         sweating.person(560, 9, 0);
         sweating.knot(0, 3, 3, 2, 1);
@@ -1398,6 +1433,8 @@ public final class WighallTest {
         refused(house, "the slot is taken", UNSUPPORTED, () -> house.store(0, 3, 2));
         due("store(0, 0, 2)", house.store(0, 0, 2), 2);
         due("store(1, 3, 1)", house.store(1, 3, 1), 1);
+        house.piece('w', 560);
+        refused(house, "the first slot is taken", UNSUPPORTED, () -> house.store(0, 0, 3));
         house.unbox(0);
         due("the slot is free", house.store(0, 3, 0), 2);
         house.unbox(0);
@@ -1410,7 +1447,7 @@ public final class WighallTest {
         due("store(2, 0, 0)", house.store(2, 0, 0), 1);
         refused(house, "store(3, 0, 0)", INDEX, () -> house.store(3, 9, 0));
         refused(house, "store(-1, 0, 0)", INDEX, () -> house.store(-1, 0, 0));
-        refused(house, "store(0, 0, 3)", INDEX, () -> house.store(0, 9, 3));
+        refused(house, "store(0, 0, 4)", INDEX, () -> house.store(0, 9, 4));
         refused(house, "store(0, 0, -1)", INDEX, () -> house.store(0, 0, -1));
         refused(house, "store(0, 4, 0)", ARGUMENT, () -> house.store(0, 4, 0));
         refused(house, "store(0, -1, 0)", ARGUMENT, () -> house.store(0, -1, 0));
@@ -1614,5 +1651,32 @@ public final class WighallTest {
         house.show();
         house.hire(0, 1);
         due("behind a show, with hire", house.isSound(), true);
+        soundPlans();
+    }
+
+    private static void soundPlans() {
+        Wighall house = houseWithLooks();
+        house.look(0, -1, 1, 0, 0, 0);
+        house.knot(0, 3, 3, 0, 1);
+        house.knot(0, 3, 3, 1, 1);
+        house.knot(0, 3, 3, 2, 1);
+        due("hair of three bundles", house.isSound(), true);
+        for (int i = 0; i < 4; i++) {
+            house.scene(1, 0);
+        }
+        house.enter(0, 0);
+        house.enter(2, 5);
+        house.enter(1, 2);
+        house.enter(3, 3);
+        due("both are late", house.late(), 2);
+        due("two late at once", house.isSound(), true);
+        house.dresser(0);
+        due("both are done", house.late(), 0);
+        due("one change right behind the other", house.isSound(), true);
+        house.dresser(0);
+        house.exit(1, 1);
+        house.enter(0, 2);
+        due("both at once", house.change(0, 'd') * 10 + house.change(1, 'd'), 1);
+        due("by two dressers", house.isSound(), true);
     }
 }
