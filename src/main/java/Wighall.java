@@ -1108,14 +1108,17 @@ public final class Wighall {
             return sum / knotted;
         }
 
-        /** A place beyond the last column or row that can be knotted is no neighbour, and never uneven. */
+        /**
+         * A place without knots counts as one of 0 knots; a place beyond the last column or row that can be knotted is
+         * no neighbour, and never uneven.
+         */
         private boolean isEvenWith(int x, int y, int nextX, int nextY) {
             if (nextX >= SIDE || nextY >= rows()) {
                 return true;
             }
             int knots = spotAt(x, y).knots;
             int next = spotAt(nextX, nextY).knots;
-            return knots > 0 && next > 0 && Math.abs(knots - next) <= EVEN_KNOTS;
+            return Math.abs(knots - next) <= EVEN_KNOTS;
         }
 
         /** Without knots both sums are 0, so that such a head keeps its set as one that is made does. */

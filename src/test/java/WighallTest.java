@@ -556,35 +556,81 @@ public final class WighallTest {
 
     private static void isEven() {
         Wighall house = houseWithPieces();
-        due("without knots", house.isEven(0), false);
+        due("a head without knots", house.isEven(0), true);
+        due("a beard without knots", house.isEven(1), true);
         fill(house, 0, 6, 0, 3);
         due("all alike", house.isEven(0), true);
         house.unknot(0, 5, 5);
-        due("none in the last place", house.isEven(0), false);
-        house.knot(0, 5, 5, 0, 3);
-        house.knot(0, 5, 5, 0, 3);
-        due("3 more in the last place", house.isEven(0), true);
-        house.knot(0, 5, 5, 0, 1);
-        due("4 more in the last place", house.isEven(0), false);
-        house.knot(0, 4, 5, 0, 1);
-        due("4 more than the one ahead", house.isEven(0), false);
+        due("none in the last place, beside 3", house.isEven(0), true);
         house.knot(0, 5, 4, 0, 1);
+        due("none in the last place, behind 4", house.isEven(0), false);
+        house.knot(0, 5, 5, 0, 1);
+        due("1 in the last place, behind 4", house.isEven(0), true);
+        house.knot(0, 5, 5, 0, 5);
+        due("3 more in the last place than at its left", house.isEven(0), true);
+        house.knot(0, 5, 5, 0, 1);
+        due("4 more in the last place than at its left", house.isEven(0), false);
+        house.knot(0, 4, 5, 0, 1);
         due("3 more than both beside it", house.isEven(0), true);
         house.unknot(0, 0, 0);
-        due("a place without knots", house.isEven(0), false);
+        due("a front place without knots, beside 3", house.isEven(0), true);
+        house.knot(0, 0, 1, 0, 1);
+        due("a front place without knots, ahead of 4", house.isEven(0), false);
         house.knot(0, 0, 0, 0, 1);
-        due("a place with one knot", house.isEven(0), true);
-        house.unknot(0, 5, 0);
-        house.knot(0, 5, 0, 0, 1);
-        due("a place with one knot, the last of its row", house.isEven(0), true);
+        due("a front place with one knot, ahead of 4", house.isEven(0), true);
+        refused(house, "isEven(3)", INDEX, () -> house.isEven(3));
+        refused(house, "isEven(-1)", INDEX, () -> house.isEven(-1));
+        isEvenAmongNone();
+        isEvenOnEachSide();
+        isEvenOfBeards();
+    }
+
+    private static void isEvenAmongNone() {
+        int[][] places = {{0, 1}, {2, 2}, {5, 3}, {0, 5}, {5, 5}};
+        for (int[] at : places) {
+            Wighall house = houseWithPieces();
+            String where = at[0] + ", " + at[1];
+            house.knot(0, at[0], at[1], 0, 3);
+            due("3 among none at " + where, house.isEven(0), true);
+            house.knot(0, at[0], at[1], 0, 1);
+            due("4 among none at " + where, house.isEven(0), false);
+            house.unknot(0, at[0], at[1]);
+            due("taken out again at " + where, house.isEven(0), true);
+        }
+    }
+
+    private static void isEvenOnEachSide() {
+        Wighall house = houseWithPieces();
+        int[][] sides = {{1, 2}, {3, 2}, {2, 1}, {2, 3}};
+        house.knot(0, 2, 2, 0, 4);
+        for (int[] side : sides) {
+            due("4 beside none at " + side[0] + ", " + side[1], house.isEven(0), false);
+            house.knot(0, side[0], side[1], 0, 1);
+        }
+        due("4 beside 1 on each side, none at the corners", house.isEven(0), true);
+        for (int[] side : sides) {
+            house.unknot(0, side[0], side[1]);
+            due("4 beside none at " + side[0] + ", " + side[1] + " alone", house.isEven(0), false);
+            house.knot(0, side[0], side[1], 0, 1);
+        }
+    }
+
+    /** What lies behind the two rows of a beard cannot be knotted, and is not compared. */
+    private static void isEvenOfBeards() {
+        Wighall house = houseWithPieces();
+        house.knot(1, 0, 1, 0, 3);
+        due("a beard with 3 beside none", house.isEven(1), true);
+        house.knot(1, 0, 1, 0, 1);
+        due("a beard with 4 beside none", house.isEven(1), false);
+        house.unknot(1, 0, 1);
         fill(house, 1, 2, 0, 5);
         due("a beard of two rows", house.isEven(1), true);
         house.knot(1, 0, 1, 0, 4);
         due("a beard with 4 more at the left", house.isEven(1), false);
         house.unknot(1, 0, 1);
-        due("a beard with one missing", house.isEven(1), false);
-        refused(house, "isEven(3)", INDEX, () -> house.isEven(3));
-        refused(house, "isEven(-1)", INDEX, () -> house.isEven(-1));
+        due("a beard with none beside 5", house.isEven(1), false);
+        house.knot(1, 0, 1, 0, 2);
+        due("a beard with 2 beside 5", house.isEven(1), true);
     }
 
     private static void set() {
