@@ -210,17 +210,17 @@ public final class EdgesTest {
 
     private static void runRow(Sentence sentence, Wighall house, String told, String due) {
         calls++;
-        String want = due.equals("none") ? "" : due;
         String got = told.equals("lackrow") ? HouseView.lackRow(house) : HouseView.changeRow(house);
-        if (!got.equals(want)) {
-            tell(sentence, told + " is " + got + ", due is " + want);
+        if (!got.equals(due)) {
+            tell(sentence, told + " is " + got + ", due is " + due);
         }
     }
 
     private static void runCall(Sentence sentence, Wighall house, Call call, String want) {
         calls++;
         String got = call.answer(house);
-        boolean isRight = want.isEmpty() ? !got.startsWith("throws ") && !got.startsWith("is broken") : got.equals(want);
+        boolean isAnswer = !got.startsWith("throws ") && !got.startsWith("is broken");
+        boolean isRight = want.isEmpty() ? isAnswer : got.equals(want);
         if (!isRight) {
             tell(sentence, call + " answered " + got + ", due is " + (want.isEmpty() ? "any answer" : want));
         }

@@ -127,25 +127,6 @@ public final class WighallTest {
         }
     }
 
-    private static String lackRow(Wighall house) {
-        StringBuilder row = new StringBuilder();
-        for (int i = 0; i < house.lacks(); i++) {
-            row.append(house.lack(i, 's')).append(house.lackSort(i)).append(house.lack(i, 'p')).append(' ');
-        }
-        return row.toString().trim();
-    }
-
-    private static String changeRow(Wighall house) {
-        StringBuilder row = new StringBuilder();
-        for (int i = 0; i < house.changes(); i++) {
-            for (char what : "pstabd".toCharArray()) {
-                row.append(what).append(house.change(i, what));
-            }
-            row.append(' ');
-        }
-        return row.toString().trim();
-    }
-
     // ---- the promises
 
     private static void newObject() {
@@ -907,18 +888,18 @@ public final class WighallTest {
         house.scene(2, 0);
         house.enter(0, 0);
         house.enter(2, 1);
-        due("without dressers", changeRow(house), "p0s40t80a0b2d-1");
+        due("without dressers", HouseView.changeRow(house), "p0s40t80a0b2d-1");
         house.dresser(1);
-        due("the wing of the later scene", changeRow(house), "p0s40t80a0b2d-1");
+        due("the wing of the later scene", HouseView.changeRow(house), "p0s40t80a0b2d-1");
         house.dresser(0);
-        due("with a dresser", changeRow(house), "p0s40t80a0b2d1");
+        due("with a dresser", HouseView.changeRow(house), "p0s40t80a0b2d1");
         house.enter(0, 2);
         house.enter(2, 3);
-        due("one dresser for two", changeRow(house), "p0s40t80a0b2d1 p1s25t80a0b2d-1");
+        due("one dresser for two", HouseView.changeRow(house), "p0s40t80a0b2d1 p1s25t80a0b2d-1");
         house.dresser(0);
-        due("two dressers for two", changeRow(house), "p0s40t80a0b2d1 p1s25t80a0b2d2");
+        due("two dressers for two", HouseView.changeRow(house), "p0s40t80a0b2d1 p1s25t80a0b2d2");
         house.enter(1, 4);
-        due("too long for the time", changeRow(house), "p0s40t80a0b2d1 p1s185t20a0b1d-1 p1s160t20a1b2d-1");
+        due("too long for the time", HouseView.changeRow(house), "p0s40t80a0b2d1 p1s185t20a0b1d-1 p1s160t20a1b2d-1");
         refused(house, "change(3, 'p')", INDEX, () -> house.change(3, 'q'));
         refused(house, "change(-1, 'p')", INDEX, () -> house.change(-1, 'p'));
         refused(house, "change(0, 'q')", ARGUMENT, () -> house.change(0, 'q'));
@@ -940,23 +921,23 @@ public final class WighallTest {
         house.dresser(0);
         house.enter(0, 0);
         house.enter(3, 1);
-        due("100 seconds, beginning at 60", changeRow(house), "p0s100t140a0b3d0");
+        due("100 seconds, beginning at 60", HouseView.changeRow(house), "p0s100t140a0b3d0");
         house.enter(1, 2);
         house.enter(3, 3);
-        due("busy from 60 to 160", changeRow(house), "p0s100t140a0b3d0 p1s100t80a1b3d-1");
+        due("busy from 60 to 160", HouseView.changeRow(house), "p0s100t140a0b3d0 p1s100t80a1b3d-1");
         house.look(1, -1, -1, 0, 1, 0);
         house.look(2, -1, -1, 0, 1, 0);
         house.enter(3, 6);
-        due("busy at 120 still", changeRow(house), "p0s100t140a0b3d0 p1s25t80a1b3d-1");
+        due("busy at 120 still", HouseView.changeRow(house), "p0s100t140a0b3d0 p1s25t80a1b3d-1");
         house.enter(2, 4);
         house.enter(3, 7);
-        due("free at 180", changeRow(house), "p0s100t140a0b3d0 p1s25t80a1b3d-1 p2s25t20a2b3d-1");
+        due("free at 180", HouseView.changeRow(house), "p0s100t140a0b3d0 p1s25t80a1b3d-1 p2s25t20a2b3d-1");
         house.exit(2, 2);
         house.enter(1, 4);
-        due("late ones keep nobody busy", changeRow(house),
+        due("late ones keep nobody busy", HouseView.changeRow(house),
                 "p0s100t140a0b3d0 p1s25t80a1b3d-1 p2s25t80a1b3d-1");
         house.exit(0, 0);
-        due("the lower person first", changeRow(house), "p1s25t80a1b3d0 p2s25t80a1b3d-1");
+        due("the lower person first", HouseView.changeRow(house), "p1s25t80a1b3d0 p2s25t80a1b3d-1");
         changeBackToBack();
         changeInLongScenes();
     }
@@ -974,14 +955,14 @@ public final class WighallTest {
         house.enter(2, 5);
         house.enter(1, 2);
         house.enter(3, 3);
-        due("free as the one ahead ends", changeRow(house), "p0s60t80a0b2d0 p1s25t80a1b3d0");
+        due("free as the one ahead ends", HouseView.changeRow(house), "p0s60t80a0b2d0 p1s25t80a1b3d0");
         due("60 to 120, then 120 to 145", house.late(), 0);
         house.look(0, -1, 1, 0, 1, 0);
         house.enter(2, 6);
-        due("longer than there is time", changeRow(house), "p0s85t80a0b2d-1 p1s25t80a1b3d0");
+        due("longer than there is time", HouseView.changeRow(house), "p0s85t80a0b2d-1 p1s25t80a1b3d0");
         house.exit(2, 0);
         house.enter(3, 6);
-        due("with more time it keeps the dresser", changeRow(house), "p0s85t140a0b3d0 p1s25t80a1b3d-1");
+        due("with more time it keeps the dresser", HouseView.changeRow(house), "p0s85t140a0b3d0 p1s25t80a1b3d-1");
         due("one is late", house.late(), 1);
     }
 
@@ -996,11 +977,11 @@ public final class WighallTest {
         house.enter(2, 5);
         house.enter(1, 2);
         house.enter(2, 3);
-        due("75 seconds fit ahead of 120", changeRow(house), "p0s75t140a0b2d0 p1s25t20a1b2d-1");
+        due("75 seconds fit ahead of 120", HouseView.changeRow(house), "p0s75t140a0b2d0 p1s25t20a1b2d-1");
         house.scene(1, 0);
         house.exit(2, 1);
         house.enter(3, 3);
-        due("free behind two minutes", changeRow(house), "p0s75t140a0b2d0 p1s25t80a1b3d0");
+        due("free behind two minutes", HouseView.changeRow(house), "p0s75t140a0b2d0 p1s25t80a1b3d0");
     }
 
     private static void late() {
@@ -1068,7 +1049,7 @@ public final class WighallTest {
         house.box('b');
         house.store(0, 0, 0);
         refused(house, "a head in a box", UNSUPPORTED, () -> house.show());
-        due("the lacks stay", lackRow(house), "1d0");
+        due("the lacks stay", HouseView.lackRow(house), "1d0");
         house.unbox(0);
         house.store(1, 0, 1);
         refused(house, "a beard in a box", UNSUPPORTED, () -> house.show());
@@ -1108,12 +1089,12 @@ public final class WighallTest {
         due("the set", house.of(0, 's'), 40);
         due("a set stays as it comes out of a show", house.show(), 1);
         due("0 at least", house.of(0, 's'), 0);
-        due("it is down", lackRow(house), "0d0");
+        due("it is down", HouseView.lackRow(house), "0d0");
         house.set(0);
         house.scene(1, 0);
         house.enter(1, 0);
         due("at 39 it is down", house.show(), 1);
-        due("in the second scene", lackRow(house), "1d0");
+        due("in the second scene", HouseView.lackRow(house), "1d0");
     }
 
     private static void showMadeHeads() {
@@ -1168,7 +1149,7 @@ public final class WighallTest {
             house.enter(1, 0);
             house.enter(2, 0);
             house.show();
-            due("it is off at sweat " + sweat, lackRow(house), "1o0 2o0");
+            due("it is off at sweat " + sweat, HouseView.lackRow(house), "1o0 2o0");
         }
         Wighall house = houseWithPeople();
         house.piece('b', 0);
@@ -1202,7 +1183,7 @@ public final class WighallTest {
     /** The lacks of a show but for those who are late. */
     private static String beardLacks(Wighall house) {
         house.show();
-        return lackRow(house).replaceAll("\\d+l\\d+ ?", "").trim();
+        return HouseView.lackRow(house).replaceAll("\\d+l\\d+ ?", "").trim();
     }
 
     private static void showGlues() {
@@ -1219,7 +1200,7 @@ public final class WighallTest {
         house.enter(0, 0);
         house.enter(1, 0);
         due("a glue that is not borne", house.show(), 2);
-        due("in each scene", lackRow(house), "0g0 1g0");
+        due("in each scene", HouseView.lackRow(house), "0g0 1g0");
         due("it is known", house.barred(0), 4);
         due("in each show", house.show(), 2);
         house.exit(0, 0);
@@ -1242,16 +1223,16 @@ public final class WighallTest {
         house.scene(10, 0);
         house.enter(0, 2);
         due("without another one", house.show(), 1);
-        due("glue alone", lackRow(house), "0g2");
+        due("glue alone", HouseView.lackRow(house), "0g2");
         house.set(0);
         house.enter(0, 1);
         house.enter(0, 0);
         due("a beard of one, head and beard of others", house.show(), 2);
-        due("once for both pieces, without glue", lackRow(house), "0s1 0s2");
+        due("once for both pieces, without glue", HouseView.lackRow(house), "0s1 0s2");
         due("person 1 wears the head", house.of(0, 's'), 80);
         house.enter(0, 3);
         due("another head", house.show(), 2);
-        due("it is down", lackRow(house), "0s1 0d2");
+        due("it is down", HouseView.lackRow(house), "0s1 0d2");
         due("again", house.of(0, 's'), 60);
         sharedWornOrNot();
         sharedBeardIsNone();
@@ -1270,7 +1251,7 @@ public final class WighallTest {
         house.enter(0, 1);
         house.enter(0, 2);
         due("two do not wear the head", house.show(), 2);
-        due("one of them not the beard either", lackRow(house), "0s1 0s2");
+        due("one of them not the beard either", HouseView.lackRow(house), "0s1 0s2");
         due("worn by one alone", house.of(2, 's'), 90);
     }
 
@@ -1285,10 +1266,10 @@ public final class WighallTest {
         house.enter(1, 1);
         house.enter(2, 1);
         house.show();
-        due("worn by one", lackRow(house), "1o1 2o1");
+        due("worn by one", HouseView.lackRow(house), "1o1 2o1");
         house.enter(1, 0);
         house.show();
-        due("not worn is none for what comes behind", lackRow(house), "1s1");
+        due("not worn is none for what comes behind", HouseView.lackRow(house), "1s1");
     }
 
     private static void showLate() {
@@ -1306,17 +1287,17 @@ public final class WighallTest {
         house.enter(1, 2);
         house.enter(2, 3);
         house.show();
-        due("late, down, glue, off", lackRow(house), "1l2 1d2 1g2 2l2 2d2 2o2 2g2");
+        due("late, down, glue, off", HouseView.lackRow(house), "1l2 1d2 1g2 2l2 2d2 2o2 2g2");
         house.enter(2, 0);
         house.show();
-        due("late, shared, down", lackRow(house), "1l2 1d2 1g2 2d0 2l2 2s2 2d2");
+        due("late, shared, down", HouseView.lackRow(house), "1l2 1d2 1g2 2d0 2l2 2s2 2d2");
         house.dresser(0);
         house.scene(1, 0);
         house.exit(1, 2);
         house.exit(2, 2);
         house.enter(3, 3);
         house.show();
-        due("in time", lackRow(house), "2d0 3d2 3g2");
+        due("in time", HouseView.lackRow(house), "2d0 3d2 3g2");
     }
 
     private static void lacks() {
@@ -1363,7 +1344,7 @@ public final class WighallTest {
         house.enter(1, 2);
         house.enter(1, 0);
         house.show();
-        due("by scenes, then by people", lackRow(house), "0d1 1d0 1d2");
+        due("by scenes, then by people", HouseView.lackRow(house), "0d1 1d0 1d2");
         due("lack(2, 's')", house.lack(2, 's'), 1);
         due("lack(2, 'p')", house.lack(2, 'p'), 2);
         refused(house, "lack(3, 's')", INDEX, () -> house.lack(3, 'q'));
