@@ -614,7 +614,8 @@ public final class Wighall {
 
     public float fullShare(int piece) throws IndexOutOfBoundsException {
         Piece asked = pieceAt(piece);
-        return (float) asked.knottedSpots() / (float) asked.openSpots();
+        int open = asked.openSpots();
+        return open == 0 ? 0 : (float) asked.knottedSpots() / (float) open;
     }
 
     public double meanLength(int piece) throws IndexOutOfBoundsException, ArithmeticException {
@@ -1015,10 +1016,11 @@ public final class Wighall {
         }
 
         private Spot spotAt(int x, int y) {
-            if (!isPlace(x, y)) {
+            int number = SIDE * y + x;
+            if (!isPlace(x, y) || number >= spots.size()) {
                 throw new IllegalArgumentException("no such place");
             }
-            return spots.get(SIDE * y + x);
+            return spots.get(number);
         }
 
         private boolean isAway() {

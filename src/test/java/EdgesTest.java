@@ -95,8 +95,9 @@ public final class EdgesTest {
         }
         List<Sentence> sentences = new ArrayList<>();
         for (Path file : files) {
-            read(file, sentences);
+            read(file.getFileName().toString(), Files.readAllLines(file), sentences);
         }
+        readReadme(sentences);
         for (Sentence sentence : sentences) {
             run(sentence);
         }
@@ -127,17 +128,39 @@ public final class EdgesTest {
 
     // ---- reading
 
-    private static void read(Path file, List<Sentence> sentences) throws IOException {
+    /** README.md shows how such tests are written: what it shows is to hold too. */
+    private static void readReadme(List<Sentence> sentences) throws IOException {
+        int before = sentences.size();
+        List<String> block = null;
+        for (String line : Files.readAllLines(Path.of("README.md"))) {
+            if (line.startsWith("```") && block != null) {
+                if (!block.isEmpty() && block.get(0).startsWith("== ")) {
+                    read("a test shown in README.md", block, sentences);
+                }
+                block = null;
+            } else if (line.startsWith("```")) {
+                block = new ArrayList<>();
+            } else if (block != null) {
+                block.add(line);
+            }
+        }
+        if (sentences.size() == before) {
+            wrong++;
+            System.out.println("README.md shows no test");
+        }
+    }
+
+    private static void read(String file, List<String> written, List<Sentence> sentences) {
         List<String> lines = null;
         int number = 0;
-        for (String raw : Files.readAllLines(file)) {
+        for (String raw : written) {
             number++;
             String line = raw.trim();
             if (line.isEmpty() || line.startsWith("//")) {
                 continue;
             }
             if (line.startsWith("== ")) {
-                Sentence sentence = new Sentence(line.substring(3), file.getFileName() + ":" + number);
+                Sentence sentence = new Sentence(line.substring(3), file + ":" + number);
                 sentences.add(sentence);
                 lines = sentence.lines;
             } else if (line.startsWith(":: ")) {
